@@ -43,8 +43,8 @@ public final class FencedLedger {
     private final int quorum;
     private final Store[] stores;
     private final Channel channel;
-    private final Author author;
-    private final Rescuer[] rescuers;
+    private final Writer theWriter;
+    private final Recoverer[] recoverers;
     private int ledgerState;
     private int ledgerVersion;
     private int ledgerLast;
@@ -58,10 +58,10 @@ public final class FencedLedger {
             stores[s] = new Store();
         }
         channel = new Channel();
-        author = new Author();
-        rescuers = new Rescuer[RECOVERER_COUNT];
+        theWriter = new Writer();
+        recoverers = new Recoverer[RECOVERER_COUNT];
         for (int k = 0; k < RECOVERER_COUNT; k++) {
-            rescuers[k] = new Rescuer(k + 1);
+            recoverers[k] = new Recoverer(k + 1);
         }
         ledgerState = LEDGER_OPEN;
         ledgerVersion = 0;
@@ -71,91 +71,91 @@ public final class FencedLedger {
     // The writer
 
     public int add(int value) throws IllegalStateException, IndexOutOfBoundsException {
-        if (author.state != WRITER_WRITING) {
+        if (theWriter.state != WRITER_WRITING) {
             throw new IllegalStateException("the writer is not writing");
         }
-        if (author.isFull()) {
+        if (theWriter.isFull()) {
             throw new IndexOutOfBoundsException("too many entries");
         }
-        int e = author.append(value);
-        sendAuthorsAdd(e);
+        int e = theWriter.append(value);
+        sendWritersAdd(e);
         return e;
     }
 
     public int resend(int e) {
-        if (author.state != WRITER_WRITING || !author.knows(e)) {
+        if (theWriter.state != WRITER_WRITING || !theWriter.knows(e)) {
             return NONE;
         }
-        if (e <= author.lac && author.countAnswers(e) == setSize) {
+        if (e <= theWriter.lac && theWriter.countAnswers(e) == setSize) {
             return NONE;
         }
-        return sendAuthorsAdd(e);
+        return sendWritersAdd(e);
     }
 
     public boolean close() {
-        if (author.state != WRITER_WRITING || ledgerState != LEDGER_OPEN) {
+        if (theWriter.state != WRITER_WRITING || ledgerState != LEDGER_OPEN) {
             return false;
         }
-        shutLedger(author.lac);
-        author.state = WRITER_DONE;
+        shutLedger(theWriter.lac);
+        theWriter.state = WRITER_DONE;
         return true;
     }
 
     public boolean leave() {
-        if (author.state == WRITER_GONE) {
+        if (theWriter.state == WRITER_GONE) {
             return false;
         }
-        author.state = WRITER_GONE;
+        theWriter.state = WRITER_GONE;
         return true;
     }
 
     public int writer(int w) {
         switch (w) {
             case 0:
-                return author.state;
+                return theWriter.state;
             case 1:
-                return author.entryCount;
+                return theWriter.entryCount;
             case 2:
-                return author.lac;
+                return theWriter.lac;
             default:
                 return NONE;
         }
     }
 
     public int answers(int e) {
-        return author.knows(e) ? author.countAnswers(e) : NONE;
+        return theWriter.knows(e) ? theWriter.countAnswers(e) : NONE;
     }
 
     // The recoverers
 
     public boolean recover(int r) {
-        if (!isRecoverer(r) || rescuers[r - 1].state != IDLE) {
+        if (!isRecoverer(r) || recoverers[r - 1].state != IDLE) {
             return false;
         }
-        Rescuer rescuer = rescuers[r - 1];
+        Recoverer recoverer = recoverers[r - 1];
         if (ledgerState == LEDGER_CLOSED) {
-            rescuer.state = DONE;
+            recoverer.state = DONE;
             return true;
         }
         ledgerState = LEDGER_RECOVERING;
         ledgerVersion++;
-        rescuer.beginFencing(ledgerVersion);
-        sendStep(rescuer);
+        recoverer.beginFencing(ledgerVersion);
+        sendStep(recoverer);
         return true;
     }
 
     public int retry(int r) {
-        if (!isRecoverer(r) || !rescuers[r - 1].isBusy()) {
+        if (!isRecoverer(r) || !recoverers[r - 1].isBusy()) {
             return NONE;
         }
-        return sendStep(rescuers[r - 1]);
+        return sendStep(recoverers[r - 1]);
     }
 
     public boolean abandon(int r) {
-        if (!isRecoverer(r) || !rescuers[r - 1].isBusy()) {
+        if (!isRecoverer(r) || !recoverers[r - 1].isBusy()) {
             return false;
         }
-        rescuers[r - 1].state = IDLE;
+        recoverers[r - 1].state = IDLE;
         return true;
     }
 
@@ -163,7 +163,7 @@ public final class FencedLedger {
         if (!isRecoverer(r)) {
             return NONE;
         }
-        return rescuers[r - 1].detail(w);
+        return recoverers[r - 1].detail(w);
     }
 
     // The channel
@@ -176,9 +176,9 @@ public final class FencedLedger {
         if (m.isToStore()) {
             reachStore(m);
         } else if (m.client == WRITER_CLIENT) {
-            author.hear(m, quorum);
+            theWriter.hear(m, quorum);
         } else {
-            reachRescuer(m);
+            reachRecoverer(m);
         }
         return m.kind;
     }
@@ -289,8 +289,9 @@ public final class FencedLedger {
         ledgerVersion++;
     }
 
-    private int sendAuthorsAdd(int e) {
-        return sendToSet(ADD, WRITER_CLIENT, e, author.values[e], 0, author.lac, author.answered[e]);
+    private int sendWritersAdd(int e) {
+        int value = theWriter.values[e];
+        return sendToSet(ADD, WRITER_CLIENT, e, value, 0, theWriter.lac, theWriter.answered[e]);
     }
 
     /** Answers how many were sent; one that a full channel loses was sent, too. */
@@ -306,11 +307,11 @@ public final class FencedLedger {
         return sent;
     }
 
-    private int sendFences(Rescuer rescuer) {
+    private int sendFences(Recoverer recoverer) {
         int sent = 0;
         for (int s = 0; s < storeCount; s++) {
-            if ((rescuer.answered & (1 << s)) == 0) {
-                channel.send(FENCE, rescuer.client, s, 0, 0, rescuer.term, 0);
+            if ((recoverer.answered & (1 << s)) == 0) {
+                channel.send(FENCE, recoverer.client, s, 0, 0, recoverer.term, 0);
                 sent++;
             }
         }
@@ -321,7 +322,7 @@ public final class FencedLedger {
      * A step begins with nobody having answered, so its first sending and its repetitions are one
      * and the same.
      */
-    private int sendStep(Rescuer x) {
+    private int sendStep(Recoverer x) {
         switch (x.state) {
             case FENCING:
                 return sendFences(x);
@@ -364,42 +365,42 @@ public final class FencedLedger {
         channel.send(kind, m.client, m.store, m.entry, value, m.term, 0);
     }
 
-    private void reachRescuer(Message m) {
-        Rescuer rescuer = rescuers[m.client - 1];
-        if (m.term != rescuer.term) {
+    private void reachRecoverer(Message m) {
+        Recoverer recoverer = recoverers[m.client - 1];
+        if (m.term != recoverer.term) {
             return;
         }
-        if (m.kind == FENCED && rescuer.state == FENCING) {
-            hearFenced(rescuer, m);
-        } else if (m.kind == GOT && rescuer.awaits(READING, m.entry)) {
-            rescuer.beginWritingBack(m.value);
-            sendStep(rescuer);
-        } else if (m.kind == MISSING && rescuer.awaits(READING, m.entry)) {
-            hearMissing(rescuer, m);
-        } else if (m.kind == ADDED && rescuer.awaits(WRITING_BACK, m.entry)) {
-            hearAdded(rescuer, m);
+        if (m.kind == FENCED && recoverer.state == FENCING) {
+            hearFenced(recoverer, m);
+        } else if (m.kind == GOT && recoverer.awaits(READING, m.entry)) {
+            recoverer.beginWritingBack(m.value);
+            sendStep(recoverer);
+        } else if (m.kind == MISSING && recoverer.awaits(READING, m.entry)) {
+            hearMissing(recoverer, m);
+        } else if (m.kind == ADDED && recoverer.awaits(WRITING_BACK, m.entry)) {
+            hearAdded(recoverer, m);
         }
     }
 
-    private void hearFenced(Rescuer rescuer, Message m) {
-        rescuer.noteAnswer(m.store);
-        rescuer.highestMark = Math.max(rescuer.highestMark, m.value);
-        if (isWriterFencedOut(rescuer.answered)) {
-            readOn(rescuer, rescuer.highestMark + 1);
+    private void hearFenced(Recoverer recoverer, Message m) {
+        recoverer.noteAnswer(m.store);
+        recoverer.highestMark = Math.max(recoverer.highestMark, m.value);
+        if (isWriterFencedOut(recoverer.answered)) {
+            readOn(recoverer, recoverer.highestMark + 1);
         }
     }
 
-    private void hearMissing(Rescuer rescuer, Message m) {
-        rescuer.noteAnswer(m.store);
-        if (rescuer.countAnswered() >= setSize - quorum + 1) {
-            finish(rescuer, rescuer.entry - 1);
+    private void hearMissing(Recoverer recoverer, Message m) {
+        recoverer.noteAnswer(m.store);
+        if (recoverer.countAnswered() >= setSize - quorum + 1) {
+            finish(recoverer, recoverer.entry - 1);
         }
     }
 
-    private void hearAdded(Rescuer rescuer, Message m) {
-        rescuer.noteAnswer(m.store);
-        if (rescuer.countAnswered() >= quorum) {
-            readOn(rescuer, rescuer.entry + 1);
+    private void hearAdded(Recoverer recoverer, Message m) {
+        recoverer.noteAnswer(m.store);
+        if (recoverer.countAnswered() >= quorum) {
+            readOn(recoverer, recoverer.entry + 1);
         }
     }
 
@@ -423,20 +424,20 @@ public final class FencedLedger {
         return silent;
     }
 
-    private void readOn(Rescuer rescuer, int e) {
+    private void readOn(Recoverer recoverer, int e) {
         if (e >= ENTRY_LIMIT) {
-            finish(rescuer, e - 1);
+            finish(recoverer, e - 1);
             return;
         }
-        rescuer.beginReading(e);
-        sendStep(rescuer);
+        recoverer.beginReading(e);
+        sendStep(recoverer);
     }
 
-    private void finish(Rescuer rescuer, int last) {
-        if (ledgerState == LEDGER_RECOVERING && ledgerVersion == rescuer.term) {
+    private void finish(Recoverer recoverer, int last) {
+        if (ledgerState == LEDGER_RECOVERING && ledgerVersion == recoverer.term) {
             shutLedger(last);
         }
-        rescuer.state = ledgerState == LEDGER_CLOSED ? DONE : IDLE;
+        recoverer.state = ledgerState == LEDGER_CLOSED ? DONE : IDLE;
     }
 
     /** What one store keeps. */
@@ -555,7 +556,7 @@ public final class FencedLedger {
     }
 
     /** The writer. */
-    private static final class Author {
+    private static final class Writer {
         private final int[] values = new int[ENTRY_LIMIT];
         private final int[] answered = new int[ENTRY_LIMIT];
         private int state = WRITER_WRITING;
@@ -601,7 +602,7 @@ public final class FencedLedger {
     }
 
     /** A recoverer; value is that of the entry that it writes back. */
-    private static final class Rescuer {
+    private static final class Recoverer {
         private final int client;
         private int state = IDLE;
         private int term = 0;
@@ -610,7 +611,7 @@ public final class FencedLedger {
         private int highestMark = -1;
         private int value = 0;
 
-        private Rescuer(int client) {
+        private Recoverer(int client) {
             this.client = client;
         }
 

@@ -92,7 +92,7 @@ public final class Promise02AddTest {
             both.add(e);
         }
         both.leave();
-        Check.dueThrow("add when GONE, four above LAC", IllegalStateException.class, () -> both.add(1));
+        Check.dueThrow("add, GONE and four above", IllegalStateException.class, () -> both.add(1));
         Check.due("flight()", both.flight(), 8);
     }
 

@@ -60,15 +60,16 @@ public final class Promise18RecovererTest {
 
     /** N 5, W 2, Q 2: neighbours must not both be silent. */
     private static void fencingNeedsEverySet() {
-        FencedLedger x = new FencedLedger(5, 2, 2);
-        x.recover(1);
-        Check.deliverFirst(x, 1, 1, 1, 1, 1);
-        x.deliver(1);
-        x.deliver(2);
-        // 1 and 3 have ANSWERED: 4 and 0, the SET of entry 4, have not
-        Check.dueRecoverer(x, 1, 1, 1, 0, 2, -1);
-        x.deliver(0);
-        Check.dueRecoverer(x, 1, 2, 1, 0, 0, -1);
+        for (int e = 0; e < 5; e++) {
+            FencedLedger x = new FencedLedger(5, 2, 2);
+            x.recover(1);
+            fenceOnly(x, (e + 2) % 5);
+            fenceOnly(x, (e + 4) % 5);
+            // the SET of e, e and e + 1, is silent, and no other SET is
+            Check.dueRecoverer(x, 1, 1, 1, 0, 2, -1);
+            fenceOnly(x, e);
+            Check.dueRecoverer(x, 1, 2, 1, 0, 0, -1);
+        }
 
         FencedLedger all = new FencedLedger(5, 2, 1);
         all.recover(1);
@@ -82,6 +83,17 @@ public final class Promise18RecovererTest {
         one.deliver(3);
         Check.due("deliver(4)", one.deliver(4), Check.FENCED);
         Check.dueRecoverer(one, 2, 2, 1, 0, 0, -1);
+    }
+
+    private static void fenceOnly(FencedLedger x, int s) {
+        Check.loseAll(x);
+        x.retry(1);
+        int i = 0;
+        while (i < x.flight() && x.message(i, 2) != s) {
+            i++;
+        }
+        Check.due("deliver to store " + s, x.deliver(i), Check.FENCE);
+        Check.due("deliver the answer", x.deliver(x.flight() - 1), Check.FENCED);
     }
 
     private static void anyOneOfTheSetCanHaveIt() {
