@@ -21,7 +21,7 @@ public final class Promise01NewObjectTest {
     }
 
     private static void dueNumbers(int n, int w, int q, int wantN, int wantW, int wantQ) {
-        FencedLedger x = new FencedLedger(n, w, q);
+        Face x = new Real(n, w, q);
         String made = "of new FencedLedger(" + n + ", " + w + ", " + q + "): ";
         Check.due(made + "store(N - 1, 0)", x.store(wantN - 1, 0), 1);
         Check.due(made + "store(N, 0)", x.store(wantN, 0), FencedLedger.NONE);
@@ -37,7 +37,7 @@ public final class Promise01NewObjectTest {
     }
 
     private static void firstState() {
-        FencedLedger x = new FencedLedger(5, 3, 2);
+        Face x = new Real(5, 3, 2);
         Check.due("flight()", x.flight(), 0);
         Check.dueWriter(x, 0, 0, -1);
         Check.dueLedger(x, 0, 0, -1);

@@ -11,7 +11,7 @@ public final class Promise02AddTest {
     }
 
     private static void sendsToTheSetInOrder() {
-        FencedLedger x = new FencedLedger(4, 3, 2);
+        Face x = new Real(4, 3, 2);
         for (int e = 0; e < 4; e++) {
             Check.due("add", x.add(10 + e), e);
         }
@@ -27,7 +27,7 @@ public final class Promise02AddTest {
     }
 
     private static void carriesLacAsMark() {
-        FencedLedger x = Check.counted(3, 2, 2, 5, 6);
+        Face x = Check.counted(3, 2, 2, 5, 6);
         Check.due("add(7)", x.add(7), 2);
         Check.dueMessage(x, 0, Check.ADD, 0, 2, 2, 7, 0, 1);
         Check.dueMessage(x, 1, Check.ADD, 0, 0, 2, 7, 0, 1);
@@ -35,7 +35,7 @@ public final class Promise02AddTest {
     }
 
     private static void anyValue() {
-        FencedLedger x = new FencedLedger(3, 2, 1);
+        Face x = new Real(3, 2, 1);
         int[] values = {Integer.MIN_VALUE, -1, 0, Integer.MAX_VALUE};
         for (int k = 0; k < values.length; k++) {
             Check.due("add", x.add(values[k]), k);
@@ -44,7 +44,7 @@ public final class Promise02AddTest {
     }
 
     private static void fourAboveLac() {
-        FencedLedger x = Check.counted(3, 2, 2, 1);
+        Face x = Check.counted(3, 2, 2, 1);
         for (int e = 1; e <= 4; e++) {
             Check.due("add", x.add(e), e);
         }
@@ -59,7 +59,7 @@ public final class Promise02AddTest {
     }
 
     private static void twentyEntries() {
-        FencedLedger x = Check.counted(3, 2, 1, new int[19]);
+        Face x = Check.counted(3, 2, 1, new int[19]);
         Check.due("add", x.add(3), 19);
         Check.dueThrow("add of entry 20", IndexOutOfBoundsException.class, () -> x.add(4));
         Check.deliverAll(x);
@@ -69,16 +69,16 @@ public final class Promise02AddTest {
     }
 
     private static void notWriting() {
-        FencedLedger gone = new FencedLedger(3, 2, 1);
+        Face gone = new Real(3, 2, 1);
         gone.leave();
         Check.dueThrow("add when GONE", IllegalStateException.class, () -> gone.add(1));
         Check.dueWriter(gone, 3, 0, -1);
 
-        FencedLedger done = new FencedLedger(3, 2, 1);
+        Face done = new Real(3, 2, 1);
         done.close();
         Check.dueThrow("add when DONE", IllegalStateException.class, () -> done.add(1));
 
-        FencedLedger stopped = new FencedLedger(3, 2, 1);
+        Face stopped = new Real(3, 2, 1);
         stopped.recover(1);
         Check.deliverFirst(stopped, Check.FENCE);
         stopped.add(1);
@@ -87,7 +87,7 @@ public final class Promise02AddTest {
         Check.dueWriter(stopped, 1, 1, -1);
         Check.dueThrow("add when STOPPED", IllegalStateException.class, () -> stopped.add(1));
 
-        FencedLedger both = new FencedLedger(3, 2, 1);
+        Face both = new Real(3, 2, 1);
         for (int e = 0; e < 4; e++) {
             both.add(e);
         }
@@ -97,7 +97,7 @@ public final class Promise02AddTest {
     }
 
     private static void fullChannel() {
-        FencedLedger x = new FencedLedger(5, 5, 1);
+        Face x = new Real(5, 5, 1);
         for (int e = 0; e < 4; e++) {
             x.add(e);
         }

@@ -10,7 +10,7 @@ public final class Promise03ResendTest {
     }
 
     private static void toThoseWhoHaveNotAnswered() {
-        FencedLedger x = new FencedLedger(5, 3, 2);
+        Face x = new Real(5, 3, 2);
         x.add(8);
         Check.due("resend(0)", x.resend(0), 3);
         Check.due("flight()", x.flight(), 6);
@@ -33,7 +33,7 @@ public final class Promise03ResendTest {
     }
 
     private static void markIsLacOfNow() {
-        FencedLedger x = new FencedLedger(3, 2, 1);
+        Face x = new Real(3, 2, 1);
         x.add(4);
         x.add(5);
         x.deliver(0);
@@ -50,7 +50,7 @@ public final class Promise03ResendTest {
     }
 
     private static void allAnsweredAboveLac() {
-        FencedLedger x = new FencedLedger(3, 2, 2);
+        Face x = new Real(3, 2, 2);
         x.add(1);
         x.add(2);
         x.lose(0);
@@ -64,7 +64,7 @@ public final class Promise03ResendTest {
     }
 
     private static void noSuchEntry() {
-        FencedLedger x = new FencedLedger(3, 2, 2);
+        Face x = new Real(3, 2, 2);
         Check.due("resend(0) with none", x.resend(0), FencedLedger.NONE);
         x.add(1);
         Check.due("resend(1) with one", x.resend(1), FencedLedger.NONE);
@@ -75,15 +75,15 @@ public final class Promise03ResendTest {
     }
 
     private static void notWriting() {
-        FencedLedger gone = new FencedLedger(3, 2, 2);
+        Face gone = new Real(3, 2, 2);
         gone.add(1);
         gone.leave();
         Check.due("resend when GONE", gone.resend(0), FencedLedger.NONE);
-        FencedLedger done = new FencedLedger(3, 2, 2);
+        Face done = new Real(3, 2, 2);
         done.add(1);
         done.close();
         Check.due("resend when DONE", done.resend(0), FencedLedger.NONE);
-        FencedLedger stopped = new FencedLedger(3, 2, 2);
+        Face stopped = new Real(3, 2, 2);
         stopped.recover(1);
         stopped.deliver(0);
         stopped.add(1);
@@ -94,7 +94,7 @@ public final class Promise03ResendTest {
     }
 
     private static void fullChannel() {
-        FencedLedger x = new FencedLedger(5, 5, 1);
+        Face x = new Real(5, 5, 1);
         for (int e = 0; e < 4; e++) {
             x.add(e);
         }

@@ -8,7 +8,7 @@ public final class Promise04CloseTest {
     }
 
     private static void closesAtLac() {
-        FencedLedger x = Check.counted(3, 2, 2, 5, 6);
+        Face x = Check.counted(3, 2, 2, 5, 6);
         x.add(7);
         Check.due("close()", x.close(), true);
         Check.dueLedger(x, 2, 1, 1);
@@ -22,14 +22,14 @@ public final class Promise04CloseTest {
     }
 
     private static void closesEmpty() {
-        FencedLedger x = new FencedLedger(3, 2, 2);
+        Face x = new Real(3, 2, 2);
         Check.due("close()", x.close(), true);
         Check.dueLedger(x, 2, 1, -1);
         Check.dueWriter(x, 2, 0, -1);
     }
 
     private static void notWriting() {
-        FencedLedger x = Check.counted(3, 2, 2, 5);
+        Face x = Check.counted(3, 2, 2, 5);
         x.leave();
         Check.due("close() when GONE", x.close(), false);
         Check.dueLedger(x, 0, 0, -1);
@@ -37,7 +37,7 @@ public final class Promise04CloseTest {
     }
 
     private static void notOpen() {
-        FencedLedger x = Check.counted(3, 2, 2, 5);
+        Face x = Check.counted(3, 2, 2, 5);
         x.recover(1);
         Check.due("close() while RECOVERING", x.close(), false);
         Check.dueLedger(x, 1, 1, -1);

@@ -1,6 +1,6 @@
 public final class Promise05LeaveTest {
     public static void main(String[] args) {
-        FencedLedger writing = Check.counted(3, 2, 2, 5);
+        Face writing = Check.counted(3, 2, 2, 5);
         writing.add(6);
         Check.deliverFirst(writing, Check.ADD, Check.ADD);
         Check.due("leave() while WRITING", writing.leave(), true);
@@ -12,13 +12,13 @@ public final class Promise05LeaveTest {
         Check.due("answers(1) heard when GONE", writing.answers(1), 0);
         Check.dueLedger(writing, 0, 0, -1);
 
-        FencedLedger done = new FencedLedger(3, 2, 2);
+        Face done = new Real(3, 2, 2);
         done.close();
         Check.due("leave() when DONE", done.leave(), true);
         Check.dueWriter(done, 3, 0, -1);
         Check.dueLedger(done, 2, 1, -1);
 
-        FencedLedger stopped = new FencedLedger(3, 2, 2);
+        Face stopped = new Real(3, 2, 2);
         stopped.recover(2);
         stopped.deliver(0);
         stopped.add(1);
@@ -28,7 +28,7 @@ public final class Promise05LeaveTest {
         Check.due("leave() when STOPPED", stopped.leave(), true);
         Check.dueWriter(stopped, 3, 1, -1);
 
-        FencedLedger refused = new FencedLedger(3, 2, 2);
+        Face refused = new Real(3, 2, 2);
         refused.recover(2);
         refused.deliver(0);
         refused.add(1);

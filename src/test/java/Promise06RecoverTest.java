@@ -9,7 +9,7 @@ public final class Promise06RecoverTest {
     }
 
     private static void begins() {
-        FencedLedger x = new FencedLedger(5, 3, 2);
+        Face x = new Real(5, 3, 2);
         x.add(9);
         Check.due("recover(2)", x.recover(2), true);
         Check.dueLedger(x, 1, 1, -1);
@@ -28,7 +28,7 @@ public final class Promise06RecoverTest {
     }
 
     private static void closedAlready() {
-        FencedLedger x = Check.counted(3, 2, 2, 5);
+        Face x = Check.counted(3, 2, 2, 5);
         x.close();
         Check.due("recover(1)", x.recover(1), true);
         Check.dueRecoverer(x, 1, 4, 0, 0, 0, -1);
@@ -36,7 +36,7 @@ public final class Promise06RecoverTest {
         Check.due("flight()", x.flight(), 0);
         Check.due("recover(1) when DONE", x.recover(1), false);
 
-        FencedLedger abandoned = Check.counted(3, 2, 2, 5);
+        Face abandoned = Check.counted(3, 2, 2, 5);
         abandoned.recover(1);
         Check.deliverFirst(abandoned, Check.FENCE, Check.FENCE, Check.FENCE, Check.FENCED);
         abandoned.abandon(1);
@@ -50,7 +50,7 @@ public final class Promise06RecoverTest {
     }
 
     private static void noSuchOrNotIdle() {
-        FencedLedger x = new FencedLedger(3, 2, 2);
+        Face x = new Real(3, 2, 2);
         Check.due("recover(0)", x.recover(0), false);
         Check.due("recover(3)", x.recover(3), false);
         for (int r : Check.FAR_OUT) {
@@ -65,7 +65,7 @@ public final class Promise06RecoverTest {
     }
 
     private static void beginsAgain() {
-        FencedLedger x = Check.counted(3, 3, 2, 5, 6, 7);
+        Face x = Check.counted(3, 3, 2, 5, 6, 7);
         x.recover(1);
         Check.deliverFirst(x, Check.FENCE, Check.FENCE, Check.FENCE, Check.FENCED, Check.FENCED);
         Check.dueRecoverer(x, 1, 2, 1, 2, 0, 1);
@@ -82,7 +82,7 @@ public final class Promise06RecoverTest {
     }
 
     private static void fullChannel() {
-        FencedLedger x = new FencedLedger(5, 4, 1);
+        Face x = new Real(5, 4, 1);
         for (int e = 0; e < 4; e++) {
             x.add(e);
         }

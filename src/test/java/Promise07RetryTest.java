@@ -7,7 +7,7 @@ public final class Promise07RetryTest {
     }
 
     private static void everyStep() {
-        FencedLedger x = Check.counted(4, 3, 2, 5, 6);
+        Face x = Check.counted(4, 3, 2, 5, 6);
         x.add(-1);
         Check.deliverFirst(x, Check.ADD, Check.ADD, Check.ADD);
         Check.loseAll(x);
@@ -61,7 +61,7 @@ public final class Promise07RetryTest {
     }
 
     private static void nothingToRetry() {
-        FencedLedger x = new FencedLedger(3, 2, 2);
+        Face x = new Real(3, 2, 2);
         Check.due("retry(1) when IDLE", x.retry(1), FencedLedger.NONE);
         x.recover(1);
         Check.due("retry(2) when IDLE", x.retry(2), FencedLedger.NONE);
@@ -77,7 +77,7 @@ public final class Promise07RetryTest {
     }
 
     private static void fullChannel() {
-        FencedLedger x = new FencedLedger(5, 3, 2);
+        Face x = new Real(5, 3, 2);
         x.recover(1);
         for (int k = 0; k < 4; k++) {
             Check.due("retry(1)", x.retry(1), 5);

@@ -1,6 +1,6 @@
 public final class Promise08AbandonTest {
     public static void main(String[] args) {
-        FencedLedger x = Check.counted(3, 2, 2, 5, 6);
+        Face x = Check.counted(3, 2, 2, 5, 6);
         Check.due("abandon(1) when IDLE", x.abandon(1), false);
         x.recover(1);
         Check.due("abandon(2) when IDLE", x.abandon(2), false);

@@ -13,7 +13,7 @@ public final class Promise09DeliverTest {
     }
 
     private static void noSuchMessage() {
-        FencedLedger x = new FencedLedger(3, 2, 2);
+        Face x = new Real(3, 2, 2);
         Check.due("deliver(0) of none", x.deliver(0), FencedLedger.NONE);
         x.add(1);
         Check.due("deliver(2) of two", x.deliver(2), FencedLedger.NONE);
@@ -24,7 +24,7 @@ public final class Promise09DeliverTest {
     }
 
     private static void inAnyOrder() {
-        FencedLedger x = new FencedLedger(3, 3, 2);
+        Face x = new Real(3, 3, 2);
         x.add(6);
         Check.due("deliver(1)", x.deliver(1), Check.ADD);
         Check.due("flight()", x.flight(), 3);
@@ -41,7 +41,7 @@ public final class Promise09DeliverTest {
     }
 
     private static void toStoreThatIsDown() {
-        FencedLedger x = new FencedLedger(3, 2, 2);
+        Face x = new Real(3, 2, 2);
         x.add(6);
         x.recover(1);
         x.power(0, false);
@@ -52,7 +52,7 @@ public final class Promise09DeliverTest {
     }
 
     private static void answerFromStoreThatIsDown() {
-        FencedLedger x = new FencedLedger(3, 2, 1);
+        Face x = new Real(3, 2, 1);
         x.add(6);
         Check.deliverFirst(x, Check.ADD);
         x.power(0, false);
@@ -61,7 +61,7 @@ public final class Promise09DeliverTest {
     }
 
     private static void addToFencedStore() {
-        FencedLedger x = new FencedLedger(3, 2, 2);
+        Face x = new Real(3, 2, 2);
         x.add(4);
         x.add(5);
         x.recover(1);
@@ -81,7 +81,7 @@ public final class Promise09DeliverTest {
     }
 
     private static void markOnlyGrows() {
-        FencedLedger x = new FencedLedger(3, 3, 1);
+        Face x = new Real(3, 3, 1);
         x.add(4);
         Check.due("deliver(2)", x.deliver(2), Check.ADD);
         Check.due("deliver(2)", x.deliver(2), Check.ADDED);
@@ -98,7 +98,7 @@ public final class Promise09DeliverTest {
     }
 
     private static void fenceAndReadFence() {
-        FencedLedger x = Check.counted(3, 2, 2, 5, -7);
+        Face x = Check.counted(3, 2, 2, 5, -7);
         x.recover(1);
         Check.deliverFirst(x, Check.FENCE);
         Check.dueStore(x, 0, 1, 1, -1, 1);
@@ -112,14 +112,14 @@ public final class Promise09DeliverTest {
         Check.deliverFirst(x, Check.READ);
         Check.dueMessage(x, 1, Check.GOT, 1, 1, 1, -7, 1, 0);
 
-        FencedLedger empty = new FencedLedger(5, 2, 1);
+        Face empty = new Real(5, 2, 1);
         empty.recover(2);
         Check.deliverFirst(empty, 1, 1, 1, 1, 1, 5, 5, 5, 5, 5);
         Check.deliverFirst(empty, Check.READ);
         Check.dueMessage(empty, 1, Check.MISSING, 2, 0, 0, 0, 1, 0);
 
         // with Q 3 of 3 one FENCED is enough to read on
-        FencedLedger early = new FencedLedger(3, 3, 3);
+        Face early = new Real(3, 3, 3);
         early.recover(1);
         Check.deliverFirst(early, Check.FENCE);
         Check.due("deliver(2)", early.deliver(2), Check.FENCED);
@@ -133,7 +133,7 @@ public final class Promise09DeliverTest {
     }
 
     private static void answerFindsRoomInFullChannel() {
-        FencedLedger x = new FencedLedger(5, 5, 3);
+        Face x = new Real(5, 5, 3);
         for (int e = 0; e < 4; e++) {
             x.add(30 + e);
         }
@@ -145,7 +145,7 @@ public final class Promise09DeliverTest {
     }
 
     private static void writerCountsInOrder() {
-        FencedLedger x = new FencedLedger(3, 2, 2);
+        Face x = new Real(3, 2, 2);
         x.add(1);
         x.add(2);
         x.add(3);
@@ -165,7 +165,7 @@ public final class Promise09DeliverTest {
         Check.deliverFirst(x, Check.ADDED);
         Check.due("writer(2)", x.writer(2), 2);
 
-        FencedLedger twice = new FencedLedger(3, 2, 2);
+        Face twice = new Real(3, 2, 2);
         twice.add(1);
         twice.resend(0);
         twice.deliver(0);

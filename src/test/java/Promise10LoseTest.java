@@ -1,6 +1,6 @@
 public final class Promise10LoseTest {
     public static void main(String[] args) {
-        FencedLedger x = new FencedLedger(4, 4, 2);
+        Face x = new Real(4, 4, 2);
         Check.due("lose(0) of none", x.lose(0), false);
         x.add(6);
         Check.due("lose(4) of four", x.lose(4), false);

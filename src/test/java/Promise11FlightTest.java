@@ -1,6 +1,6 @@
 public final class Promise11FlightTest {
     public static void main(String[] args) {
-        FencedLedger x = new FencedLedger(5, 4, 2);
+        Face x = new Real(5, 4, 2);
         Check.due("flight() at first", x.flight(), 0);
         x.add(1);
         Check.due("flight() after add", x.flight(), 4);

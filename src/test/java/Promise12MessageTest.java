@@ -1,6 +1,6 @@
 public final class Promise12MessageTest {
     public static void main(String[] args) {
-        FencedLedger x = new FencedLedger(3, 2, 2);
+        Face x = new Real(3, 2, 2);
         noSuch(x, 0);
         x.add(70);
         Check.dueMessage(x, 0, Check.ADD, 0, 0, 0, 70, 0, -1);
@@ -47,7 +47,7 @@ public final class Promise12MessageTest {
         Check.end();
     }
 
-    private static void noSuch(FencedLedger x, int count) {
+    private static void noSuch(Face x, int count) {
         for (int w = 0; w < 7; w++) {
             Check.due("message(" + count + ", " + w + ")", x.message(count, w), FencedLedger.NONE);
         }

@@ -1,6 +1,6 @@
 public final class Promise13PowerTest {
     public static void main(String[] args) {
-        FencedLedger x = Check.counted(3, 2, 2, 5, 6);
+        Face x = Check.counted(3, 2, 2, 5, 6);
         Check.due("power(0, true) when UP", x.power(0, true), false);
         Check.due("power(3, false)", x.power(3, false), false);
         Check.due("power(3, true)", x.power(3, true), false);

@@ -1,6 +1,6 @@
 public final class Promise14StoreTest {
     public static void main(String[] args) {
-        FencedLedger x = Check.counted(4, 2, 1, 5, 6, 7, 8, 9);
+        Face x = Check.counted(4, 2, 1, 5, 6, 7, 8, 9);
         // entries 0 and 4 on 0 and 1, entry 3 on 3 and 0, each with the mark one below it
         Check.dueStore(x, 0, 1, 0, 3, 3);
         Check.dueStore(x, 1, 1, 0, 3, 3);

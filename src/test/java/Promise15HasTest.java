@@ -1,6 +1,6 @@
 public final class Promise15HasTest {
     public static void main(String[] args) {
-        FencedLedger x = new FencedLedger(4, 3, 2);
+        Face x = new Real(4, 3, 2);
         Check.due("has(0, 0) at first", x.has(0, 0), false);
         x.add(5);
         x.add(6);
@@ -24,7 +24,7 @@ public final class Promise15HasTest {
         x.power(1, false);
         Check.due("has(1, 0) when down", x.has(1, 0), true);
 
-        FencedLedger full = Check.counted(3, 2, 1, new int[20]);
+        Face full = Check.counted(3, 2, 1, new int[20]);
         Check.due("has(1, 19)", full.has(1, 19), true);
         Check.due("has(2, 19)", full.has(2, 19), true);
         Check.due("has(0, 19)", full.has(0, 19), false);

@@ -1,6 +1,6 @@
 public final class Promise16WriterTest {
     public static void main(String[] args) {
-        FencedLedger x = new FencedLedger(3, 2, 1);
+        Face x = new Real(3, 2, 1);
         Check.dueWriter(x, 0, 0, -1);
         x.add(5);
         x.add(6);
@@ -22,7 +22,7 @@ public final class Promise16WriterTest {
         x.leave();
         Check.dueWriter(x, 3, 3, 1);
 
-        FencedLedger done = new FencedLedger(3, 2, 1);
+        Face done = new Real(3, 2, 1);
         done.close();
         Check.dueWriter(done, 2, 0, -1);
         Check.end();

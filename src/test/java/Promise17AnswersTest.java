@@ -1,6 +1,6 @@
 public final class Promise17AnswersTest {
     public static void main(String[] args) {
-        FencedLedger x = new FencedLedger(4, 3, 1);
+        Face x = new Real(4, 3, 1);
         Check.due("answers(0) of none", x.answers(0), FencedLedger.NONE);
         x.add(5);
         x.add(6);
@@ -26,7 +26,7 @@ public final class Promise17AnswersTest {
         Check.deliverFirst(x, Check.ADDED);
         Check.due("answers(1) heard when GONE", x.answers(1), 1);
 
-        FencedLedger back = new FencedLedger(3, 3, 2);
+        Face back = new Real(3, 3, 2);
         back.add(5);
         Check.deliverFirst(back, Check.ADD);
         Check.loseAll(back);

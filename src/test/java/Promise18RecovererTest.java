@@ -14,7 +14,7 @@ public final class Promise18RecovererTest {
     }
 
     private static void aWholeRecovery() {
-        FencedLedger x = Check.counted(5, 3, 2, 50, 51, 52);
+        Face x = Check.counted(5, 3, 2, 50, 51, 52);
         x.add(53);
         Check.deliverFirst(x, Check.ADD);
         Check.loseAll(x);
@@ -61,7 +61,7 @@ public final class Promise18RecovererTest {
     /** N 5, W 2, Q 2: neighbours must not both be silent. */
     private static void fencingNeedsEverySet() {
         for (int e = 0; e < 5; e++) {
-            FencedLedger x = new FencedLedger(5, 2, 2);
+            Face x = new Real(5, 2, 2);
             x.recover(1);
             fenceOnly(x, (e + 2) % 5);
             fenceOnly(x, (e + 4) % 5);
@@ -71,21 +71,21 @@ public final class Promise18RecovererTest {
             Check.dueRecoverer(x, 1, 2, 1, 0, 0, -1);
         }
 
-        FencedLedger all = new FencedLedger(5, 2, 1);
+        Face all = new Real(5, 2, 1);
         all.recover(1);
         Check.deliverFirst(all, 1, 1, 1, 1, 1, 5, 5, 5, 5);
         Check.dueRecoverer(all, 1, 1, 1, 0, 4, -1);
         Check.deliverFirst(all, 5);
         Check.dueRecoverer(all, 1, 2, 1, 0, 0, -1);
 
-        FencedLedger one = new FencedLedger(5, 5, 5);
+        Face one = new Real(5, 5, 5);
         one.recover(2);
         one.deliver(3);
         Check.due("deliver(4)", one.deliver(4), Check.FENCED);
         Check.dueRecoverer(one, 2, 2, 1, 0, 0, -1);
     }
 
-    private static void fenceOnly(FencedLedger x, int s) {
+    private static void fenceOnly(Face x, int s) {
         Check.loseAll(x);
         x.retry(1);
         int i = 0;
@@ -97,7 +97,7 @@ public final class Promise18RecovererTest {
     }
 
     private static void anyOneOfTheSetCanHaveIt() {
-        FencedLedger x = new FencedLedger(3, 3, 1);
+        Face x = new Real(3, 3, 1);
         x.add(44);
         x.deliver(2);
         Check.loseAll(x);
@@ -114,7 +114,7 @@ public final class Promise18RecovererTest {
     }
 
     private static void hearsOnlyItsTerm() {
-        FencedLedger x = new FencedLedger(3, 2, 2);
+        Face x = new Real(3, 2, 2);
         x.recover(1);
         Check.deliverFirst(x, Check.FENCE, Check.FENCE, Check.FENCE);
         x.abandon(1);
@@ -126,7 +126,7 @@ public final class Promise18RecovererTest {
     }
 
     private static void hearsOnlyItsEntry() {
-        FencedLedger x = new FencedLedger(3, 3, 2);
+        Face x = new Real(3, 3, 2);
         x.add(40);
         x.add(41);
         Check.deliverFirst(x, 0, 0, 0, 0, 0, 0);
@@ -148,7 +148,7 @@ public final class Promise18RecovererTest {
         Check.deliverFirst(x, Check.READ, Check.READ, Check.READ, Check.GOT);
         Check.dueRecoverer(x, 1, 3, 1, 1, 0, -1);
 
-        FencedLedger late = new FencedLedger(3, 3, 2);
+        Face late = new Real(3, 3, 2);
         late.add(40);
         late.add(41);
         Check.deliverFirst(late, 0, 0, 0, 0, 0, 0);
@@ -167,7 +167,7 @@ public final class Promise18RecovererTest {
     }
 
     private static void oneStoreCountsOnce() {
-        FencedLedger x = new FencedLedger(3, 3, 2);
+        Face x = new Real(3, 3, 2);
         x.recover(1);
         x.retry(1);
         x.deliver(3);
@@ -194,7 +194,7 @@ public final class Promise18RecovererTest {
     }
 
     private static void outdatedFinishes() {
-        FencedLedger x = new FencedLedger(3, 3, 3);
+        Face x = new Real(3, 3, 3);
         x.recover(1);
         Check.deliverFirst(x, 1, 1, 1, 5, 5, 5, 2, 2, 2);
         x.recover(2);
@@ -205,7 +205,7 @@ public final class Promise18RecovererTest {
         Check.due("recover(1) again", x.recover(1), true);
         Check.dueRecoverer(x, 1, 1, 3, 0, 0, -1);
 
-        FencedLedger y = new FencedLedger(3, 3, 3);
+        Face y = new Real(3, 3, 3);
         y.recover(1);
         Check.deliverFirst(y, 1, 1, 1, 5, 5, 5, 2, 2, 2);
         y.recover(2);
@@ -222,7 +222,7 @@ public final class Promise18RecovererTest {
     }
 
     private static void finishesAtTwenty() {
-        FencedLedger x = Check.counted(3, 2, 1, new int[20]);
+        Face x = Check.counted(3, 2, 1, new int[20]);
         x.recover(2);
         Check.deliverFirst(x, 1, 1, 1, 5, 5, 5);
         Check.dueRecoverer(x, 2, 2, 1, 19, 0, 18);
@@ -235,7 +235,7 @@ public final class Promise18RecovererTest {
     }
 
     private static void finishesAtTwentyFromFencing() {
-        FencedLedger x = Check.counted(3, 2, 1, new int[19]);
+        Face x = Check.counted(3, 2, 1, new int[19]);
         x.add(8);
         Check.deliverFirst(x, Check.ADD);
         Check.due("deliver(1)", x.deliver(1), Check.ADDED);
@@ -256,7 +256,7 @@ public final class Promise18RecovererTest {
     }
 
     private static void noSuch() {
-        FencedLedger x = new FencedLedger(3, 2, 1);
+        Face x = new Real(3, 2, 1);
         Check.due("recoverer(0, 0)", x.recoverer(0, 0), FencedLedger.NONE);
         Check.due("recoverer(3, 0)", x.recoverer(3, 0), FencedLedger.NONE);
         Check.due("recoverer(1, 5)", x.recoverer(1, 5), FencedLedger.NONE);

@@ -1,6 +1,6 @@
 public final class Promise19LedgerTest {
     public static void main(String[] args) {
-        FencedLedger x = Check.counted(3, 3, 2, 5, 6);
+        Face x = Check.counted(3, 3, 2, 5, 6);
         Check.dueLedger(x, 0, 0, -1);
         x.recover(1);
         Check.dueLedger(x, 1, 1, -1);
@@ -13,11 +13,11 @@ public final class Promise19LedgerTest {
             Check.due("ledger(" + w + ")", x.ledger(w), FencedLedger.NONE);
         }
 
-        FencedLedger closed = Check.counted(3, 3, 2, 5, 6, 7);
+        Face closed = Check.counted(3, 3, 2, 5, 6, 7);
         closed.close();
         Check.dueLedger(closed, 2, 1, 2);
 
-        FencedLedger empty = new FencedLedger(3, 3, 2);
+        Face empty = new Real(3, 3, 2);
         empty.recover(1);
         Check.deliverAll(empty);
         Check.dueLedger(empty, 2, 2, -1);

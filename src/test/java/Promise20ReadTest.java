@@ -8,7 +8,7 @@ public final class Promise20ReadTest {
     }
 
     private static void readsFromTheSet() {
-        FencedLedger x = Check.counted(3, 2, 1, 5, -1, 7);
+        Face x = Check.counted(3, 2, 1, 5, -1, 7);
         x.close();
         Check.due("read(0)", x.read(0), 5);
         Check.due("read(1)", x.read(1), -1);
@@ -25,7 +25,7 @@ public final class Promise20ReadTest {
     }
 
     private static void notClosed() {
-        FencedLedger x = Check.counted(3, 2, 1, 5);
+        Face x = Check.counted(3, 2, 1, 5);
         Check.dueThrow("read(0) when OPEN", IllegalStateException.class, () -> x.read(0));
         Check.dueThrow("read(9) when OPEN", IllegalStateException.class, () -> x.read(9));
         Check.dueThrow("read(-1) when OPEN", IllegalStateException.class, () -> x.read(-1));
@@ -34,7 +34,7 @@ public final class Promise20ReadTest {
     }
 
     private static void beyondLast() {
-        FencedLedger x = Check.counted(3, 2, 1, 5);
+        Face x = Check.counted(3, 2, 1, 5);
         x.add(6);
         x.deliver(0);
         x.close();
@@ -50,18 +50,18 @@ public final class Promise20ReadTest {
         Check.dueThrow("read(1), all down", IndexOutOfBoundsException.class, () -> x.read(1));
         Check.dueThrow("read(0), all down", UnsupportedOperationException.class, () -> x.read(0));
 
-        FencedLedger empty = new FencedLedger(3, 2, 1);
+        Face empty = new Real(3, 2, 1);
         empty.close();
         Check.dueThrow("read(0) of none", IndexOutOfBoundsException.class, () -> empty.read(0));
 
-        FencedLedger full = Check.counted(3, 2, 1, new int[20]);
+        Face full = Check.counted(3, 2, 1, new int[20]);
         full.close();
         Check.due("read(19)", full.read(19), 0);
         Check.dueThrow("read(20)", IndexOutOfBoundsException.class, () -> full.read(20));
     }
 
     private static void nobodyHasIt() {
-        FencedLedger x = new FencedLedger(4, 3, 1);
+        Face x = new Real(4, 3, 1);
         x.add(5);
         x.deliver(2);
         Check.deliverFirst(x, Check.ADD);
