@@ -170,8 +170,8 @@ final class Check {
 
     static void end() {
         String cases = edges == 0 ? "" : edges + " boundary cases: ";
-        System.out.println(
-                cases + (wrong == 0 ? "all answers are as due" : wrong + " answers are not as due"));
+        String found = wrong == 0 ? "all answers are as due" : wrong + " answers are not as due";
+        System.out.println(cases + found);
         if (wrong != 0) {
             System.exit(1);
         }

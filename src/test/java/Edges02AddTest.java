@@ -59,7 +59,7 @@ public final class Edges02AddTest {
     }
 
     private static void whenGoneAndFull() {
-        Refusal.due("add when GONE, four above", Edges02AddTest::goneWithFour, x -> x.add(9), STATE);
+        Refusal.due("add, GONE and four above", Edges02AddTest::goneWithFour, x -> x.add(9), STATE);
     }
 
     private static void whileOthersRecover() {
@@ -106,7 +106,8 @@ public final class Edges02AddTest {
     }
 
     private static void fourAboveEntry() {
-        Refusal.due("add with four above LAC 0", Edges02AddTest::fourAboveZero, x -> x.add(9), BOUNDS);
+        Refusal.due("add with four above LAC 0",
+                Edges02AddTest::fourAboveZero, x -> x.add(9), BOUNDS);
     }
 
     private static void threeAbove() {

@@ -4,14 +4,15 @@ public final class Edges06RecoverTest {
         Check.edge(closed, Edges06RecoverTest::closedByWriter);
         Check.edge(closed, Edges06RecoverTest::closedByOther);
         Check.edge(closed, Edges06RecoverTest::closedBehindAbandon);
-        String begins = "the ledger is RECOVERING, its VERSION grows by 1, and this is the recoverer's"
-                + " TERM";
+        String begins = "the ledger is RECOVERING, its VERSION grows by 1, and this is the"
+                + " recoverer's TERM";
         Check.edge(begins, Edges06RecoverTest::firstRecovery);
         Check.edge(begins, Edges06RecoverTest::bothAtOnce);
         Check.edge("nobody has ANSWERED", Edges06RecoverTest::nobodyHasAnsweredAgain);
         Check.edge("its highest MARK is -1", Edges06RecoverTest::highestMarkAgain);
-        Check.edge("FENCE is sent to all stores, 0 first", Edges06RecoverTest::fenceToAll);
-        Check.edge("FENCE is sent to all stores, 0 first", Edges06RecoverTest::fenceToOneThatIsDown);
+        String fence = "FENCE is sent to all stores, 0 first";
+        Check.edge(fence, Edges06RecoverTest::fenceToAll);
+        Check.edge(fence, Edges06RecoverTest::fenceToOneThatIsDown);
         Check.edge("false if there is none such", Edges06RecoverTest::tooSmall);
         Check.edge("false if there is none such", Edges06RecoverTest::tooLarge);
         String idle = "or it is not IDLE";
@@ -46,8 +47,7 @@ public final class Edges06RecoverTest {
         Check.deliverAll(x);
         Check.dueLedger(x, 2, 3, 2);
         Check.due("recover(1)", x.recover(1), true);
-        Check.due("recoverer(1, 0)", x.recoverer(1, 0), 4);
-        Check.due("recoverer(1, 1)", x.recoverer(1, 1), 1);
+        Check.dueRecoverer(x, 1, 4, 1, 2, 1, 1);
         Check.dueLedger(x, 2, 3, 2);
         Check.due("flight()", x.flight(), 0);
     }

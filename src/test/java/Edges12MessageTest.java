@@ -114,7 +114,8 @@ public final class Edges12MessageTest {
     private static void emptyChannel() {
         for (int w = 0; w < 7; w++) {
             int which = w;
-            Refusal.due("message(0, " + w + ") of none", Scene::empty, x -> x.message(0, which), NONE);
+            String what = "message(0, " + w + ") of none";
+            Refusal.due(what, Scene::empty, x -> x.message(0, which), NONE);
         }
     }
 

@@ -1,4 +1,4 @@
-/** The document's 'Terms': the channel, which holds at most 20 messages, and stores that are down. */
+/** The document's 'Terms': the channel of at most 20 messages, and stores that are down. */
 public final class EdgesTermsChannelTest {
     private static final int NONE = FencedLedger.NONE;
 

@@ -105,7 +105,7 @@ public final class EdgesTermsFinishTest {
         Check.dueRecoverer(x, 2, 1, 2, 0, 0, -1);
     }
 
-    /** Recoverer 2 finds entry 0, which the writer got to a store that recoverer 1 did not fence. */
+    /** Recoverer 2 finds entry 0, which came to a store that recoverer 1 did not fence. */
     private static Face otherClosed() {
         Face x = otherBegins();
         x.add(9);

@@ -1,7 +1,8 @@
 /** The document's 'Terms': what ADD, FENCE and READ do at a store, one that is FENCED too. */
 public final class EdgesTermsMessagesTest {
     public static void main(String[] args) {
-        String refused = "if the client is the writer and the store is FENCED, it answers REFUSED (e)";
+        String refused = "if the client is the writer and the store is FENCED, it answers REFUSED"
+                + " (e)";
         Check.edge(refused, EdgesTermsMessagesTest::fencedStoreRefuses);
         Check.edge(refused, EdgesTermsMessagesTest::fencedStoreKeepsNothing);
         Check.edge(refused, EdgesTermsMessagesTest::fencedStoreKeepsItsMark);

@@ -8,6 +8,7 @@ public final class EdgesTermsReadingTest {
         Check.edge(got, EdgesTermsReadingTest::gotWhenIdle);
         Check.edge(got, EdgesTermsReadingTest::gotWhenDone);
         Check.edge("the mark e - 1", EdgesTermsReadingTest::markOfEntryZero);
+        Check.edge("the mark e - 1", EdgesTermsReadingTest::markBeyondHighestMark);
         Check.edge("ADD of e with this value", EdgesTermsReadingTest::smallestAndLargestValue);
         String missing = "MISSING (e) while READING, e being E: the store has ANSWERED";
         Check.edge(missing, EdgesTermsReadingTest::missingTwice);
@@ -115,6 +116,14 @@ public final class EdgesTermsReadingTest {
     private static void markOfEntryZero() {
         Face x = writingBackEntryZero(7);
         Check.dueMessage(x, x.flight() - 1, Check.ADD, 1, 2, 0, 7, 1, -1);
+    }
+
+    /** The highest MARK that it was told is -1, but entry 0 counts now. */
+    private static void markBeyondHighestMark() {
+        Face x = readingOne();
+        Check.passWithAnswer(x, Check.READ, 1, Check.GOT);
+        Check.due("recoverer(1, 4)", x.recoverer(1, 4), -1);
+        Check.dueMessage(x, x.flight() - 1, Check.ADD, 1, 0, 1, 41, 1, 0);
     }
 
     private static void smallestAndLargestValue() {

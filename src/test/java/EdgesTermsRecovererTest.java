@@ -8,6 +8,8 @@ public final class EdgesTermsRecovererTest {
         Check.edge(term, EdgesTermsRecovererTest::gotOfOldTerm);
         Check.edge(term, EdgesTermsRecovererTest::missingOfOldTerm);
         Check.edge(term, EdgesTermsRecovererTest::addedOfOldTerm);
+        Check.edge(term, EdgesTermsRecovererTest::ledgerHasOtherVersion);
+        Check.edge(term, EdgesTermsRecovererTest::ledgerIsClosed);
         String readOn = "To READ ON from e: E is e, nobody has ANSWERED, it is READING";
         Check.edge(readOn, EdgesTermsRecovererTest::readsOnFromFencing);
         Check.edge(readOn, EdgesTermsRecovererTest::readsOnFromWritingBack);
@@ -99,6 +101,44 @@ public final class EdgesTermsRecovererTest {
         Check.dueRecoverer(x, 1, 3, 2, 0, 0, -1);
     }
 
+    /** Its own TERM counts for what it hears, whatever the ledger's VERSION is. */
+    private static void hearsAll(Face x) {
+        Check.pass(x, Check.FENCED, 0);
+        Check.dueRecoverer(x, 1, 2, 1, 0, 0, -1);
+        Check.passWithAnswer(x, Check.READ, 0, Check.GOT);
+        Check.dueRecoverer(x, 1, 3, 1, 0, 0, -1);
+        for (int s = 0; s < 3; s++) {
+            Check.passWithAnswer(x, Check.ADD, s, Check.ADDED);
+        }
+        Check.dueRecoverer(x, 1, 2, 1, 1, 0, -1);
+    }
+
+    private static void ledgerHasOtherVersion() {
+        Face x = Scene.onStoreZero(7);
+        x.recover(1);
+        Check.pass(x, Check.FENCE, 0);
+        x.recover(2);
+        hearsAll(x);
+        Check.dueLedger(x, 1, 2, -1);
+        Check.dueRecoverer(x, 2, 1, 2, 0, 0, -1);
+    }
+
+    private static void ledgerIsClosed() {
+        Face x = Scene.onStoreZero(7);
+        x.recover(1);
+        Check.pass(x, Check.FENCE, 0);
+        Check.loseAllBut(x, Check.FENCED);
+        x.recover(2);
+        Check.passWithAnswer(x, Check.FENCE, 1, Check.FENCED);
+        Check.passWithAnswer(x, Check.READ, 1, Check.MISSING);
+        Check.dueLedger(x, 2, 3, -1);
+        for (int i = x.flight() - 1; i > 0; i--) {
+            x.lose(i);
+        }
+        hearsAll(x);
+        Check.dueLedger(x, 2, 3, -1);
+    }
+
     private static void readsOnFromFencing() {
         Face x = Scene.fencing();
         Check.passWithAnswer(x, Check.FENCE, 2, Check.FENCED);
@@ -145,7 +185,7 @@ public final class EdgesTermsRecovererTest {
         Check.dueRecoverer(x, 1, 3, 1, 19, 0, 18);
         Check.deliverFirst(x, Check.ADD);
         Check.due("deliver(1)", x.deliver(1), Check.ADDED);
-        Check.due("recoverer(1, 0)", x.recoverer(1, 0), 4);
+        Check.dueRecoverer(x, 1, 4, 1, 19, 1, 18);
         Check.dueLedger(x, 2, 2, 19);
         Check.due("flight(), ADD and no READ", x.flight(), 1);
         Check.due("message(0, 0)", x.message(0, 0), Check.ADD);
@@ -165,8 +205,7 @@ public final class EdgesTermsRecovererTest {
         Check.deliverFirst(x, 1, 1, 1, 5, 5);
         Check.due("recoverer(1, 0)", x.recoverer(1, 0), 1);
         Check.deliverFirst(x, Check.FENCED);
-        Check.due("recoverer(1, 0)", x.recoverer(1, 0), 4);
-        Check.due("recoverer(1, 4)", x.recoverer(1, 4), 19);
+        Check.dueRecoverer(x, 1, 4, 1, 0, 3, 19);
         Check.dueLedger(x, 2, 2, 19);
         Check.due("flight(), no READ", x.flight(), 0);
     }

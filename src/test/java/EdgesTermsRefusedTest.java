@@ -3,8 +3,8 @@ import java.util.function.BiFunction;
 import java.util.function.Supplier;
 
 /**
- * The document's 'Terms': "A call that answers false or NONE, or throws, changes nothing." Each call
- * of the face has a test of its own, with odd arguments and in many states.
+ * The document's 'Terms': "A call that answers false or NONE, or throws, changes nothing." Each
+ * call of the face has a test of its own, with odd arguments and in many states.
  */
 public final class EdgesTermsRefusedTest {
     private static final String NOTHING =

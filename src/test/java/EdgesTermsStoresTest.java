@@ -3,7 +3,8 @@ public final class EdgesTermsStoresTest {
     public static void main(String[] args) {
         Check.edge("STORES are 0 .. N - 1", EdgesTermsStoresTest::firstAndLastStore);
         Check.edge("all are UP at first", EdgesTermsStoresTest::allUpAtFirst);
-        Check.edge("ENTRIES are numbered 0, 1, .., at most 20", EdgesTermsStoresTest::twentyEntries);
+        Check.edge("ENTRIES are numbered 0, 1, .., at most 20",
+                EdgesTermsStoresTest::twentyEntries);
         Check.edge("each with a value", EdgesTermsStoresTest::smallestAndLargestValue);
         String set = "The SET of entry e are the stores (e + j) % N for j = 0 .. W - 1.";
         Check.edge(set, EdgesTermsStoresTest::addWrapsAround);

@@ -14,6 +14,8 @@ public final class EdgesTermsWriterTest {
         Check.edge("as long as", EdgesTermsWriterTest::stopsBeforeGap);
         Check.edge("as long as entry LAC + 1 was added", EdgesTermsWriterTest::stopsAtLastAdded);
         Check.edge("as long as entry LAC + 1 was added", EdgesTermsWriterTest::stopsAtNineteen);
+        Check.edge("While WRITING", EdgesTermsWriterTest::addedWhenOthersRecover);
+        Check.edge("While WRITING", EdgesTermsWriterTest::addedWhenOthersClosed);
         Check.edge("REFUSED: it is STOPPED.", EdgesTermsWriterTest::oneRefusedStops);
         Check.edge("REFUSED: it is STOPPED.", EdgesTermsWriterTest::refusedOfOldEntryStops);
         String nothing = "At other times it hears nothing.";
@@ -150,6 +152,34 @@ public final class EdgesTermsWriterTest {
         Check.dueWriter(x, 0, 20, 19);
         Check.due("close()", x.close(), true);
         Check.due("ledger(2)", x.ledger(2), 19);
+    }
+
+    private static void addedWhenOthersRecover() {
+        Face x = new Real(3, 3, 3);
+        x.add(5);
+        Check.deliverFirst(x, Check.ADD, Check.ADD, Check.ADD);
+        x.recover(1);
+        Check.deliverFirst(x, Check.ADDED, Check.ADDED, Check.ADDED);
+        Check.dueWriter(x, 0, 1, 0);
+        Check.due("answers(0)", x.answers(0), 3);
+    }
+
+    /** ADDED comes behind all that recoverer 1 did. */
+    private static void addedWhenOthersClosed() {
+        Face x = new Real(3, 3, 3);
+        x.add(5);
+        Check.deliverFirst(x, Check.ADD, Check.ADD, Check.ADD);
+        x.recover(1);
+        int turns = 0;
+        while (x.ledger(0) != 2 && turns < 40) {
+            x.deliver(3);
+            turns++;
+        }
+        Check.dueLedger(x, 2, 2, 0);
+        Check.deliverFirst(x, Check.ADDED, Check.ADDED, Check.ADDED);
+        Check.dueWriter(x, 0, 1, 0);
+        Check.due("answers(0)", x.answers(0), 3);
+        Check.dueLedger(x, 2, 2, 0);
     }
 
     /** N 3, W 3, Q 2: one REFUSED and two ADDED to entry 0 are on their way, in this order. */

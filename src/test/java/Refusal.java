@@ -2,9 +2,9 @@ import java.util.function.Function;
 import java.util.function.Supplier;
 
 /**
- * A call that answers false or NONE, or throws: it must do so, and an object that was so called must
- * look and go on like one that was not. Looking at all takes most of an object's 512 calls, so that
- * each look has an object of its own.
+ * A call that answers false or NONE, or throws: it must do so, and an object that was so called
+ * must look and go on like one that was not. Looking at all takes most of an object's 512 calls, so
+ * that each look has an object of its own.
  */
 final class Refusal {
     private Refusal() {}

@@ -55,7 +55,7 @@ final class Scene {
         return x;
     }
 
-    /** Recoverer 1 writes entry 2 back, which store 3 has answered; ADD to 2 and 0 is on its way. */
+    /** Recoverer 1 writes entry 2 back; store 3 has answered, ADD to 2 and 0 is on its way. */
     static Face writingBack() {
         Face x = reading();
         Check.passWithAnswer(x, Check.READ, 2, Check.GOT);
